@@ -117,6 +117,8 @@ public final class PromiseTest {
         due("time(0, 3, 4)", x.time(0, 3, 4), 5);
         due("time(0, 0, 30)", x.time(0, 0, 30), 30);
         due("delay(0)", x.delay(0), STATE);
+        x.element(25);
+        due("bend(1, 0, 1)", x.bend(1, 0, 1), 1);
         EchoRow other = new EchoRow();
         due("total(0) of another", other.total(0), 0);
     }
@@ -141,6 +143,10 @@ public final class PromiseTest {
         due("time(0, 0, 20)", x.time(0, 0, 20), 10 + 20);
         x.body(10, 10, 2, 1);
         due("time(0, 0, 15)", x.time(0, 0, 15), 20 + 5);
+        x.body(0, 10, 8, 1);
+        due("time(0, 50, 0)", x.time(0, 50, 0), 50);
+        x.body(0, 10, 8, 3);
+        due("time(0, 50, 0)", x.time(0, 50, 0), 150);
     }
 
     private static void bodyAndTargets() {
@@ -320,6 +326,10 @@ public final class PromiseTest {
         due("bend(1, 3, 40)", y.bend(1, 3, 40), 0);
         y.lose(0, true);
         due("bend(0, 25, 40) when lost", y.bend(0, 25, 40), 19);
+        y.body(0, 1, 1, 1);
+        y.element(50);
+        due("where it is", y.bend(0, 25, 0), 25);
+        due("at the last x", y.bend(2, 50, 0), 50);
     }
 
     private static void echoTime() {
@@ -370,6 +380,12 @@ public final class PromiseTest {
         due("without a wall, lost", x.slowness(0, 1, 100), 5);
         x.body(10, 10, 8, 1);
         due("through a wedge", x.slowness(0, 1, 160 + 60), 3);
+        EchoRow y = new EchoRow();
+        y.element(0);
+        y.element(50);
+        y.body(0, 1, 8, 1);
+        due("a wall begins at 0", y.slowness(0, 0, 10), 5);
+        due("and ends at 50", y.slowness(1, 1, 10), 5);
         due("scene", scene().slowness(0, 2, 330), 6);
         due("scene, its own", scene().slowness(0, 2, 291), 5);
     }
@@ -454,6 +470,7 @@ public final class PromiseTest {
         due("none works", x.focus(20, 30), STATE);
         due("bad first", x.focus(20, 31), BAD);
         due("no elements", new EchoRow().focus(0, 0), STATE);
+        due("where the only one is", touching().focus(4, 0), 0);
         due("total(7)", x.total(7), 0);
     }
 
