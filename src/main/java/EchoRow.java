@@ -51,11 +51,6 @@ public final class EchoRow {
             }
         }
         layers.lay(w, p, u, v);
-        for (Element element : elements) {
-            if (element != null) {
-                element.forgetTimes();
-            }
-        }
         for (Target target : targets) {
             if (target != null) {
                 target.forgetTimes();
@@ -146,7 +141,7 @@ public final class EchoRow {
         if (one == null) {
             return UNKNOWN;
         }
-        return layers.holds(x, y) ? timeTo(one, x, y) : BAD;
+        return layers.holds(x, y) ? layers.timeTo(one.x, x, y) : BAD;
     }
 
     public int bend(int element, int x, int y) {
@@ -154,7 +149,7 @@ public final class EchoRow {
         if (one == null) {
             return UNKNOWN;
         }
-        return layers.holds(x, y) ? layers.leastBend(one.x, x, y - layers.wedge) : BAD;
+        return layers.holds(x, y) ? layers.bendTo(one.x, x, y) : BAD;
     }
 
     public int echoTime(int a, int b, int target) {
@@ -179,7 +174,7 @@ public final class EchoRow {
         int nearest = 1;
         int leastGap = GREATEST_INT;
         for (int v = 1; v <= SLOWEST; v++) {
-            int gap = Math.abs(layers.wallTicks(first.x, second.x, v) - ticks);
+            int gap = Math.abs(layers.wallTime(first.x, second.x, v) - ticks);
             if (gap < leastGap) {
                 leastGap = gap;
                 nearest = v;
@@ -232,12 +227,12 @@ public final class EchoRow {
         int greatest = 0;
         for (Element element : elements) {
             if (element != null && element.works) {
-                greatest = Math.max(greatest, timeTo(element, x, y));
+                greatest = Math.max(greatest, layers.timeTo(element.x, x, y));
             }
         }
         for (Element element : elements) {
             if (element != null && element.works) {
-                element.wait = greatest - timeTo(element, x, y);
+                element.wait = greatest - layers.timeTo(element.x, x, y);
             }
         }
         focused = true;
@@ -284,7 +279,7 @@ public final class EchoRow {
         for (Element a : elements) {
             for (Element b : elements) {
                 if (a != null && b != null && a.works && b.works) {
-                    together += echoAt(a, b, timeTo(a, x, y) + timeTo(b, x, y));
+                    together += echoAt(a, b, layers.timeTo(a.x, x, y) + layers.timeTo(b.x, x, y));
                 }
             }
         }
@@ -562,19 +557,6 @@ public final class EchoRow {
         return count;
     }
 
-    /** The TIME to a place that THE PLATE is known to hold. */
-    private int timeTo(Element element, int x, int y) {
-        int row = y - layers.wedge;
-        int cell = row * COLUMNS + x;
-        if (cell < 0 || cell >= element.times.length) {
-            return NONE;
-        }
-        if (element.times[cell] < 0) {
-            element.times[cell] = layers.leastTicks(element.x, x, row);
-        }
-        return element.times[cell];
-    }
-
     private int echoTimeBy(Element a, Element b, Target target) {
         int pair = a.number * MOST_ELEMENTS + b.number;
         if (pair < 0 || pair >= target.times.length) {
@@ -584,7 +566,7 @@ public final class EchoRow {
             int y = depthOf(target);
             int least = GREATEST_INT;
             for (int x = target.x; x <= target.z; x++) {
-                least = Math.min(least, timeTo(a, x, y) + timeTo(b, x, y));
+                least = Math.min(least, layers.timeTo(a.x, x, y) + layers.timeTo(b.x, x, y));
             }
             target.times[pair] = least;
         }
@@ -617,7 +599,7 @@ public final class EchoRow {
     private boolean fits(int x, int y, int within) {
         for (Told told : tolds) {
             if (told != null) {
-                int ticks = timeTo(told.a, x, y) + timeTo(told.b, x, y);
+                int ticks = layers.timeTo(told.a.x, x, y) + layers.timeTo(told.b.x, x, y);
                 if (Math.abs(ticks - told.tick) > within) {
                     return false;
                 }
@@ -626,16 +608,23 @@ public final class EchoRow {
         return true;
     }
 
-    /** THE WEDGE and THE PLATE, with the ticks of straight ways through each. */
+    /**
+     * THE WEDGE and THE PLATE. A straight way takes no fewer ticks the farther it goes aside, so no b beyond an
+     * ELEMENT and a place makes a TIME less, and those between give the same TIME to all that are as far apart:
+     * TIMES are kept by how far aside and how deep in THE PLATE a place is, for all ELEMENTS together.
+     */
     private static final class Layers {
-        private static final int WALL_ROW = ROWS, WEDGE_ROW = ROWS + 1, ALL_ROWS = ROWS + 2;
+        /** A row behind those of THE PLATE, for a slowness that is tried out. */
+        private static final int TRIED = ROWS;
 
         int wedge;
         private int plate;
         private int plateSlowness;
-        /** A row of ticks by dx for each dy in THE PLATE, then one for a WALL tried out, one for THE WEDGE. */
-        private final int[] legs = new int[ALL_ROWS * COLUMNS];
-        private final boolean[] ready = new boolean[ALL_ROWS];
+        private final int[] wedgeTicks = new int[COLUMNS];
+        /** Of the depth that was looked at last. */
+        private final int[] plateTicks = new int[COLUMNS];
+        private final int[] times = new int[(ROWS + 1) * COLUMNS];
+        private final boolean[] ready = new boolean[ROWS + 1];
 
         Layers() {
             lay(0, DEEPEST_PLATE, 1, 1);
@@ -648,7 +637,7 @@ public final class EchoRow {
             for (int row = 0; row < ready.length; row++) {
                 ready[row] = false;
             }
-            fillRow(WEDGE_ROW, w, u);
+            fillTicks(wedgeTicks, w, u);
         }
 
         int floor() {
@@ -659,36 +648,28 @@ public final class EchoRow {
             return !outside(x, 0, LAST_X) && !outside(y, wedge, wedge + plate);
         }
 
-        /** The least ticks from an element to x, as deep in THE PLATE as the row tells. */
-        int leastTicks(int elementX, int x, int row) {
-            if (outside(elementX, 0, LAST_X) || outside(x, 0, LAST_X) || outside(row, 0, WALL_ROW)) {
+        /** The TIME from an x at depth 0 to a place of THE PLATE. */
+        int timeTo(int fromX, int x, int y) {
+            int row = y - wedge;
+            int aside = Math.abs(fromX - x);
+            if (outside(row, 0, DEEPEST_PLATE) || outside(aside, 0, LAST_X)) {
                 return NONE;
             }
             if (!ready[row]) {
-                fillRow(row, row, plateSlowness);
+                fillTimes(row, row, plateSlowness);
             }
-            int least = GREATEST_INT;
-            int last = Math.max(elementX, x);
-            // Both legs only grow outside of these two, so no b beyond them takes fewer ticks.
-            for (int b = Math.min(elementX, x); b <= last; b++) {
-                int first = legs[WEDGE_ROW * COLUMNS + Math.abs(elementX - b)];
-                int second = legs[row * COLUMNS + Math.abs(b - x)];
-                least = Math.min(least, first + second);
-            }
-            return least;
+            return times[row * COLUMNS + aside];
         }
 
-        /** The least b of all by which that many ticks are taken. */
-        int leastBend(int elementX, int x, int row) {
-            int least = leastTicks(elementX, x, row);
-            if (least < 0) {
-                return NONE;
-            }
+        int bendTo(int fromX, int x, int y) {
+            int least = timeTo(fromX, x, y);
+            fillTicks(plateTicks, y - wedge, plateSlowness);
             // All of 0 .. 50: rounding can let a way that overshoots take no more ticks.
             for (int b = 0; b <= LAST_X; b++) {
-                int first = legs[WEDGE_ROW * COLUMNS + Math.abs(elementX - b)];
-                int second = legs[row * COLUMNS + Math.abs(b - x)];
-                if (first + second == least) {
+                int before = Math.abs(fromX - b);
+                int behind = Math.abs(b - x);
+                boolean known = before < wedgeTicks.length && behind < plateTicks.length;
+                if (known && wedgeTicks[before] + plateTicks[behind] == least) {
                     return b;
                 }
             }
@@ -696,29 +677,45 @@ public final class EchoRow {
         }
 
         /** The ECHO TIME by a WALL, were THE PLATE of slowness v. */
-        int wallTicks(int firstX, int secondX, int v) {
-            fillRow(WALL_ROW, plate, v);
+        int wallTime(int firstX, int secondX, int v) {
+            fillTimes(TRIED, plate, v);
             int least = GREATEST_INT;
             for (int x = 0; x <= LAST_X; x++) {
-                least = Math.min(least, leastTicks(firstX, x, WALL_ROW) + leastTicks(secondX, x, WALL_ROW));
+                int first = Math.abs(firstX - x);
+                int second = Math.abs(secondX - x);
+                if (first <= LAST_X && second <= LAST_X) {
+                    least = Math.min(least, times[TRIED * COLUMNS + first] + times[TRIED * COLUMNS + second]);
+                }
             }
             return least;
         }
 
-        private void fillRow(int row, int dy, int slowness) {
-            if (outside(row, 0, ALL_ROWS - 1)) {
+        private void fillTimes(int row, int depth, int slowness) {
+            if (outside(row, 0, TRIED)) {
                 return;
             }
-            int ticks = slowness * dy;
-            for (int dx = 0; dx <= LAST_X; dx++) {
-                int square = slowness * slowness * (dx * dx + dy * dy);
+            fillTicks(plateTicks, depth, slowness);
+            for (int aside = 0; aside <= LAST_X; aside++) {
+                int least = GREATEST_INT;
+                for (int b = 0; b <= aside; b++) {
+                    least = Math.min(least, wedgeTicks[b] + plateTicks[aside - b]);
+                }
+                times[row * COLUMNS + aside] = least;
+            }
+            ready[row] = true;
+        }
+
+        /** The ticks of straight ways as deep as told, by how far aside they go. */
+        private static void fillTicks(int[] row, int depth, int slowness) {
+            int ticks = 0;
+            for (int aside = 0; aside < row.length; aside++) {
+                int square = slowness * slowness * (aside * aside + depth * depth);
                 // A longer way takes no fewer ticks, so each goes on from the one ahead.
                 while ((ticks + 1) * (ticks + 1) <= square) {
                     ticks++;
                 }
-                legs[row * COLUMNS + dx] = ticks;
+                row[aside] = ticks;
             }
-            ready[row] = true;
         }
     }
 
@@ -728,19 +725,11 @@ public final class EchoRow {
         boolean works;
         /** Its DELAY, while there is a FOCUS. */
         int wait;
-        /** TIMES to the places of THE PLATE, row by row; below 0 where not yet looked for. */
-        final int[] times;
 
         Element(int number, int x) {
             this.number = number;
             this.x = x;
             works = true;
-            times = new int[ROWS * COLUMNS];
-            Arrays.fill(times, -1);
-        }
-
-        void forgetTimes() {
-            Arrays.fill(times, -1);
         }
     }
 

@@ -43,6 +43,10 @@ public final class FaceTest {
         for (Class<?> inside : face.getDeclaredClasses()) {
             int m = inside.getModifiers();
             check(Modifier.isStatic(m) && !Modifier.isPublic(m) && !Modifier.isProtected(m), "the class inside: " + inside);
+            for (Method method : inside.getDeclaredMethods()) {
+                boolean likePublic = Arrays.stream(METHODS).anyMatch(one -> one.startsWith(method.getName() + " "));
+                check(!likePublic, "inside a class, but of a public one's name: " + method);
+            }
         }
         source(Files.readString(Path.of("src/main/java/EchoRow.java")));
         room();
