@@ -616,6 +616,8 @@ public final class EchoRow {
     private static final class Layers {
         /** A row behind those of THE PLATE, for a slowness that is tried out. */
         private static final int TRIED = ROWS;
+        /** No straight way is longer than its two sides together, and no layer is deeper than THE PLATE can be. */
+        private static final int MOST_TICKS = SLOWEST * (LAST_X + DEEPEST_PLATE);
 
         int wedge;
         private int plate;
@@ -711,7 +713,7 @@ public final class EchoRow {
             for (int aside = 0; aside < row.length; aside++) {
                 int square = slowness * slowness * (aside * aside + depth * depth);
                 // A longer way takes no fewer ticks, so each goes on from the one ahead.
-                while ((ticks + 1) * (ticks + 1) <= square) {
+                while (ticks < MOST_TICKS && (ticks + 1) * (ticks + 1) <= square) {
                     ticks++;
                 }
                 row[aside] = ticks;
